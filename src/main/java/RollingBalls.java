@@ -245,10 +245,11 @@ public final class RollingBalls {
      * they are the same one, and rounding shifts nothing. As t may be any whole number, floors come out right too.
      */
     private static final class Level {
-        static final int ONE = 1 << 20;
-
         private static final int STEP_BITS = 20;
+        /** Enough for a root of 10, the greatest there is: 10 * 2^20 is below 2^24. */
         private static final int TOP_ROOT_BIT = 23;
+
+        static final int ONE = 1 << STEP_BITS;
 
         static int ofRoot(int square) {
             long scaled = (long) square << 2 * STEP_BITS;
@@ -317,7 +318,7 @@ public final class RollingBalls {
         private final int[] heights;
         private final int[] rods;
         private final int[] keptRods;
-        /** By place; right after every change of a tip, as far more calls ask than change. */
+        /** By place; brought up to date at every change of a tip, so that asking needs no more than a look. */
         private final int[] rests;
         private final int[] keptRests;
 
@@ -359,7 +360,7 @@ public final class RollingBalls {
             return was;
         }
 
-        /** Keeps the rods and what follows from them; one state at a time. */
+        /** Only one state is kept at a time, and heights are not in it: candidates change rods alone. */
         void keepState() {
             System.arraycopy(rods, 0, keptRods, 0, rods.length);
             System.arraycopy(rests, 0, keptRests, 0, rests.length);
@@ -441,6 +442,7 @@ public final class RollingBalls {
             return least;
         }
 
+        /** A tip that falls may let the ball down onto any other one, so then all rests are found anew. */
         private void moveRests(int point, int rise) {
             if (rise > 0) {
                 raiseRests(point);

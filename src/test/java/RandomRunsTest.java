@@ -91,25 +91,64 @@ public final class RandomRunsTest {
         }
     }
 
+    /** Low houses with rods to choose from, as after many changes nearly every point is safe or past saving. */
+    private void runOfRods() {
+        for (int at = 0; at < 14; at++) {
+            if (at < 4) {
+                setHeight(at, random.nextInt(3));
+            } else if (at < 8) {
+                addCandidate(at, 2 + random.nextInt(6));
+            } else if (at < 11) {
+                setWanted(at, true);
+            } else if (at == 12) {
+                putSet(at, 1 << random.nextInt(4));
+            } else {
+                same(at, "choose()", balls::choose, model::choose);
+            }
+        }
+    }
+
     private void change(int at, int kind) {
+        if (kind < 5) {
+            setHeight(at, within(0, highest));
+        } else if (kind < 8) {
+            setRod(at, within(0, Math.min(50, highest)));
+        } else if (kind < 10) {
+            addCandidate(at, within(1, Math.min(50, highest)));
+        } else {
+            setWanted(at, random.nextInt(4) == 0);
+        }
+    }
+
+    private void setHeight(int at, int h) {
         int x = pointX();
         int y = pointY();
-        if (kind < 5) {
-            int h = within(0, highest);
-            same(at, "height(" + x + ", " + y + ", " + h + ")", () -> balls.height(x, y, h), () -> model.height(x, y, h));
-        } else if (kind < 8) {
-            int length = within(0, Math.min(50, highest));
-            same(at, "rod(" + x + ", " + y + ", " + length + ")",
-                    () -> balls.rod(x, y, length), () -> model.rod(x, y, length));
-        } else if (kind < 10) {
-            int length = within(1, Math.min(50, highest));
-            same(at, "may(" + x + ", " + y + ", " + length + ")",
-                    () -> balls.may(x, y, length), () -> model.may(x, y, length));
-        } else {
-            boolean on = random.nextInt(3) != 0;
-            same(at, "want(" + x + ", " + y + ", " + on + ")",
-                    () -> balls.want(x, y, on) ? 1 : 0, () -> model.want(x, y, on) ? 1 : 0);
-        }
+        same(at, "height(" + x + ", " + y + ", " + h + ")", () -> balls.height(x, y, h), () -> model.height(x, y, h));
+    }
+
+    private void setRod(int at, int length) {
+        int x = pointX();
+        int y = pointY();
+        same(at, "rod(" + x + ", " + y + ", " + length + ")",
+                () -> balls.rod(x, y, length), () -> model.rod(x, y, length));
+    }
+
+    private void addCandidate(int at, int length) {
+        int x = pointX();
+        int y = pointY();
+        same(at, "may(" + x + ", " + y + ", " + length + ")",
+                () -> balls.may(x, y, length), () -> model.may(x, y, length));
+    }
+
+    private void setWanted(int at, boolean on) {
+        int x = pointX();
+        int y = pointY();
+        same(at, "want(" + x + ", " + y + ", " + on + ")",
+                () -> balls.want(x, y, on) ? 1 : 0, () -> model.want(x, y, on) ? 1 : 0);
+    }
+
+    private void putSet(int at, int set) {
+        same(at, "put(" + set + ")", () -> balls.put(set), () -> model.put(set));
     }
 
     private void askPlaces(int at, int kind) {
@@ -151,8 +190,7 @@ public final class RandomRunsTest {
         if (kind < 4) {
             same(at, "choose()", balls::choose, model::choose);
         } else if (kind < 7) {
-            int set = random.nextInt(4) == 0 ? random.nextInt() : random.nextInt(16);
-            same(at, "put(" + set + ")", () -> balls.put(set), () -> model.put(set));
+            putSet(at, random.nextInt(4) == 0 ? random.nextInt() : random.nextInt(16));
         } else {
             same(at, "forget()", balls::forget, model::forget);
         }
@@ -160,8 +198,11 @@ public final class RandomRunsTest {
 
     public static void main(String[] args) {
         Check check = new Check();
-        for (int seed = 1; seed <= 120 && check.wrong() == 0; seed++) {
+        for (int seed = 1; seed <= 100 && check.wrong() == 0; seed++) {
             new RandomRunsTest(seed, check).run();
+        }
+        for (int seed = 1; seed <= 2000 && check.wrong() == 0; seed++) {
+            new RandomRunsTest(seed, check).runOfRods();
         }
         check.end();
     }
