@@ -8,7 +8,6 @@ public final class RollingBalls {
     private static final int MOST_RADIUS = 10;
     private static final int MOST_HEIGHT = 200;
     private static final int MOST_ROD = 50;
-    private static final int MOST_CANDIDATES = 4;
     private static final int NUMBERS_A_ROW = 100;
 
     private static final int WHAT_FLOOR = 0;
@@ -20,46 +19,51 @@ public final class RollingBalls {
     private final int d;
     private final int r;
     private final House house;
-    private final boolean[] wanted;
+    private final Ball ball;
+    private final Plan plan;
     private final boolean[] safeBefore;
-    private final int[] candidatePoints = new int[MOST_CANDIDATES];
-    private final int[] candidateLengths = new int[MOST_CANDIDATES];
-    private int candidates = 0;
 
     public RollingBalls(int w, int d, int r) {
         this.w = between(w, 1, MOST_POINTS_ACROSS);
         this.d = between(d, 1, MOST_POINTS_ACROSS);
         this.r = between(r, 1, MOST_RADIUS);
-        house = new House(this.w, this.d, this.r);
-        wanted = new boolean[house.points];
+        house = new House(this.w, this.d);
+        ball = new Ball(house, this.r);
+        plan = new Plan(house, ball);
         safeBefore = new boolean[house.points];
     }
 
     public int height(int x, int y, int h) throws IllegalArgumentException {
         int point = pointAt(x, y);
         needNumber(h, 0, MOST_HEIGHT);
-        return house.setHeight(point, h);
+        int was = house.heights[point];
+        house.heights[point] = h;
+        ball.moveTip(point, house.tipWith(point, house.rods[point]));
+        return was;
     }
 
     public int rod(int x, int y, int length) throws IllegalArgumentException {
         int point = pointAt(x, y);
         needNumber(length, 0, MOST_ROD);
-        return house.setRod(point, length);
+        int was = house.rods[point];
+        putRod(point, length);
+        return was;
     }
 
     // ---- places
 
     public int rest(int x, int y, int what) throws IllegalArgumentException {
         needPlace(x, y);
+        int rest = ball.restAt(x, y);
         switch (what) {
             case WHAT_FLOOR:
-                return Level.floor(house.restAt(x, y));
+                return Level.floor(rest);
             case WHAT_WHOLE:
-                return Level.isWhole(house.restAt(x, y)) ? 1 : 0;
+                return Level.isWhole(rest) ? 1 : 0;
             case WHAT_POINTS:
-                return house.listTouched(x, y);
+                return ball.countTouched(x, y);
             case WHAT_GROUND:
-                return house.restAt(x, y) == r * Level.ONE ? 1 : 0;
+                return rest == ball.ground ? 1 : 0;
             default:
                 throw new IllegalArgumentException("what is not one of 0, 1, 2, 3");
         }
@@ -68,39 +72,42 @@ public final class RollingBalls {
     public int touched(int x, int y, int k) throws IllegalArgumentException {
         needPlace(x, y);
         needIndex(k);
-        int count = house.listTouched(x, y);
-        return k < count ? house.listed[k] : NONE;
+        ball.listTouched(x, y);
+        return k < ball.listedCount ? numberOf(ball.listed[k]) : NONE;
     }
 
     public int higher(int x, int y, int otherX, int otherY) throws IllegalArgumentException {
         needPlace(x, y);
         needPlace(otherX, otherY);
-        int rest = house.restAt(x, y);
-        int otherRest = house.restAt(otherX, otherY);
-        if (rest == otherRest) {
-            return 0;
-        }
-        return rest > otherRest ? 1 : -1;
+        return Integer.compare(ball.restAt(x, y), ball.restAt(otherX, otherY));
     }
 
     public int tops() {
-        return house.countHighestPlaces();
+        return ball.countHighestPlaces();
     }
 
     // ---- points
 
     public int hits(int x, int y) throws IllegalArgumentException {
-        return house.countHits(pointAt(x, y));
+        return ball.hitCounts[pointAt(x, y)];
     }
 
     public int safe(int k) throws IllegalArgumentException {
         needIndex(k);
-        int count = house.listSafe();
-        return k < count ? house.listed[k] : NONE;
+        int before = 0;
+        for (int point = 0; point < house.points; point++) {
+            if (ball.isSafe(point)) {
+                if (before == k) {
+                    return numberOf(point);
+                }
+                before++;
+            }
+        }
+        return NONE;
     }
 
     public int cover(int x, int y) throws IllegalArgumentException {
-        return Level.floor(house.coverOf(pointAt(x, y)));
+        return Level.floor(ball.coverOf(pointAt(x, y)));
     }
 
     // ---- rods
@@ -108,102 +115,55 @@ public final class RollingBalls {
     public int may(int x, int y, int length) throws IllegalArgumentException, IllegalStateException {
         int point = pointAt(x, y);
         needNumber(length, 1, MOST_ROD);
-        if (candidates >= MOST_CANDIDATES) {
+        if (plan.isFull()) {
             throw new IllegalStateException("there are 4 candidates");
         }
-        candidatePoints[candidates] = point;
-        candidateLengths[candidates] = length;
-        candidates++;
-        return candidates;
+        plan.add(point, length);
+        return plan.candidates;
     }
 
     public int forget() {
-        int were = candidates;
-        candidates = 0;
+        int were = plan.candidates;
+        plan.candidates = 0;
         return were;
     }
 
     public boolean want(int x, int y, boolean on) throws IllegalArgumentException {
         int point = pointAt(x, y);
-        boolean was = wanted[point];
-        wanted[point] = on;
+        boolean was = plan.wanted[point];
+        plan.wanted[point] = on;
         return was;
     }
 
     public int choose() {
-        int best = NONE;
-        for (int set = 0; set < 1 << candidates; set++) {
-            if (givesWay(best, set) && does(set)) {
-                best = set;
-            }
-        }
-        return best;
+        return plan.bestSet();
     }
 
     public int put(int set) {
         for (int point = 0; point < house.points; point++) {
-            safeBefore[point] = house.isSafe(point);
+            safeBefore[point] = ball.isSafe(point);
         }
-        putRods(set);
+        for (int k = 0; k < plan.candidates; k++) {
+            if (Plan.holds(set, k)) {
+                putRod(plan.candidatePoints[k], plan.candidateLengths[k]);
+            }
+        }
         int changed = 0;
         for (int point = 0; point < house.points; point++) {
-            if (safeBefore[point] != house.isSafe(point)) {
+            if (safeBefore[point] != ball.isSafe(point)) {
                 changed++;
             }
         }
         return changed;
     }
 
-    // ---- sets of candidates
-
-    /** Whether the best set so far (or NONE) is worse than a set that is greater as a number, if that one does. */
-    private boolean givesWay(int best, int set) {
-        if (best == NONE) {
-            return true;
-        }
-        int bestCount = Integer.bitCount(best);
-        int count = Integer.bitCount(set);
-        return bestCount > count || bestCount == count && lengthOf(best) > lengthOf(set);
+    private void putRod(int point, int length) {
+        house.rods[point] = length;
+        ball.moveTip(point, house.tipWith(point, length));
     }
 
-    private int lengthOf(int set) {
-        int length = 0;
-        for (int k = 0; k < candidates; k++) {
-            if (holds(set, k)) {
-                length += candidateLengths[k];
-            }
-        }
-        return length;
-    }
-
-    private boolean does(int set) {
-        house.keepState();
-        putRods(set);
-        boolean allSafe = areWantedSafe();
-        house.restoreState();
-        return allSafe;
-    }
-
-    /** Goes up from candidate 0, so that of two candidates of one point the later one counts. */
-    private void putRods(int set) {
-        for (int k = 0; k < candidates; k++) {
-            if (holds(set, k)) {
-                house.setRod(candidatePoints[k], candidateLengths[k]);
-            }
-        }
-    }
-
-    private boolean areWantedSafe() {
-        for (int point = 0; point < house.points; point++) {
-            if (wanted[point] && !house.isSafe(point)) {
-                return false;
-            }
-        }
-        return true;
-    }
-
-    private static boolean holds(int set, int k) {
-        return (set >> k & 1) == 1;
+    private int numberOf(int point) {
+        return NUMBERS_A_ROW * house.rows[point] + house.columns[point];
     }
 
     // ---- arguments
@@ -246,22 +206,22 @@ public final class RollingBalls {
      */
     private static final class Level {
         private static final int STEP_BITS = 20;
-        /** Enough for a root of 10, the greatest there is: 10 * 2^20 is below 2^24. */
-        private static final int TOP_ROOT_BIT = 23;
 
         static final int ONE = 1 << STEP_BITS;
 
-        static int ofRoot(int square) {
-            long scaled = (long) square << 2 * STEP_BITS;
-            long root = 0;
-            for (int bit = TOP_ROOT_BIT; bit >= 0; bit--) {
-                long tried = root + (1L << bit);
-                if (tried * tried <= scaled) {
-                    root = tried;
-                }
-            }
-            return (int) root;
-        }
+        /** The roots of 0 .. 100: written out, as working them out would be most of what a new object costs. */
+        static final int[] ROOTS = {
+            0, 1048576, 1482910, 1816186, 2097152, 2344687, 2568476, 2774271, 2965820, 3145728, 3315888, 3477733,
+            3632373, 3780694, 3923412, 4061117, 4194304, 4323389, 4448731, 4570636, 4689374, 4805178, 4918257,
+            5028793, 5136952, 5242880, 5346709, 5448560, 5548542, 5646754, 5743287, 5838224, 5931641, 6023610,
+            6114196, 6203459, 6291456, 6378238, 6463856, 6548355, 6631776, 6714162, 6795549, 6875972, 6955466,
+            7034061, 7111788, 7188674, 7264747, 7340032, 7414552, 7488330, 7561389, 7633748, 7705428, 7776447,
+            7846824, 7916575, 7985716, 8054265, 8122234, 8189640, 8256495, 8322813, 8388608, 8453889, 8518671,
+            8582964, 8646779, 8710126, 8773016, 8835458, 8897462, 8959037, 9020191, 9080934, 9141273, 9201217,
+            9260772, 9319947, 9378748, 9437184, 9495259, 9552982, 9610357, 9667393, 9724093, 9780465, 9836514,
+            9892246, 9947665, 10002777, 10057587, 10112100, 10166321, 10220254, 10273904, 10327275, 10380372,
+            10433199, 10485760
+        };
 
         static int floor(int level) {
             return level >> STEP_BITS;
@@ -272,27 +232,87 @@ public final class RollingBalls {
         }
     }
 
-    /** What lies under the ball: steps across and along from its centre, by along, then across. */
+    /** The points (by y, then x), what stands on them, and how high that reaches. */
+    private static final class House {
+        final int w;
+        final int d;
+        final int points;
+        final int[] columns;
+        final int[] rows;
+        final int[] heights;
+        final int[] rods;
+        /** By point, as levels; the ball moves them. */
+        final int[] tips;
+        /** By row: the highest of its tips. */
+        final int[] rowTops;
+
+        House(int w, int d) {
+            this.w = w;
+            this.d = d;
+            points = w * d;
+            columns = new int[points];
+            rows = new int[points];
+            heights = new int[points];
+            rods = new int[points];
+            tips = new int[points];
+            rowTops = new int[d];
+            for (int y = 0; y < d; y++) {
+                for (int x = 0; x < w; x++) {
+                    columns[y * w + x] = x;
+                    rows[y * w + x] = y;
+                }
+            }
+        }
+
+        int tipWith(int point, int length) {
+            return (heights[point] + length) * Level.ONE;
+        }
+
+        void setTip(int point, int tip) {
+            tips[point] = tip;
+            int row = rows[point];
+            int top = 0;
+            for (int each = row * w; each < row * w + w; each++) {
+                top = Math.max(top, tips[each]);
+            }
+            rowTops[row] = top;
+        }
+    }
+
+    /** What lies under the ball: the steps from its centre to all within its radius, across the ground. */
     private static final class Shadow {
+        /** A lift this low makes that no tip is touched. */
+        static final int OUT_OF_REACH = -1 << 30;
+
+        final int size;
         final int[] across;
         final int[] along;
+        /** How far the index of a place goes on with this step. */
+        final int[] strides;
         /** How far the centre is above a tip that the ball touches there. */
-        final int[] lift;
-        final int size;
+        final int[] lifts;
+        /** The lifts again, by (along + r) * side + across + r; out of reach in the corners. */
+        final int[] square;
+        final int side;
 
-        Shadow(int r) {
-            int most = (2 * r + 1) * (2 * r + 1);
-            across = new int[most];
-            along = new int[most];
-            lift = new int[most];
+        Shadow(int r, int placesAcross) {
+            side = 2 * r + 1;
+            across = new int[side * side];
+            along = new int[side * side];
+            strides = new int[side * side];
+            lifts = new int[side * side];
+            square = new int[side * side];
             int count = 0;
             for (int y = -r; y <= r; y++) {
                 for (int x = -r; x <= r; x++) {
-                    int square = x * x + y * y;
-                    if (square <= r * r) {
+                    int liftSquare = r * r - x * x - y * y;
+                    int cell = (y + r) * side + x + r;
+                    square[cell] = liftSquare < 0 ? OUT_OF_REACH : Level.ROOTS[liftSquare];
+                    if (liftSquare >= 0) {
                         across[count] = x;
                         along[count] = y;
-                        lift[count] = Level.ofRoot(r * r - square);
+                        strides[count] = y * placesAcross + x;
+                        lifts[count] = square[cell];
                         count++;
                     }
                 }
@@ -301,78 +321,67 @@ public final class RollingBalls {
         }
     }
 
-    /** The points with their tips, and the ball's rest at every place. Who calls sees to it that these exist. */
-    private static final class House {
-        final int points;
-        /** The numbers of the points that the last list call found. */
+    /**
+     * The ball over a house: its rest at every place, and what it touches. All of it is kept right at every change
+     * of a tip, place by place, so that asking needs but a look. Who calls sees to it that points and places exist.
+     */
+    private static final class Ball {
+        final Shadow shadow;
+        /** By point: the index of the place right above it. */
+        final int[] homes;
+        final int[] rests;
+        /** The rest on the ground, the least there is. */
+        final int ground;
+        /** By place: one of the points that are touched there, or NONE. */
+        final int[] owners;
+        /** By point: at how many places it is touched. */
+        final int[] hitCounts;
+        /** The points that were found at the last place that was looked at. */
         final int[] listed;
+        int listedCount = 0;
 
-        private final int w;
-        private final int d;
+        private final House house;
         private final int r;
         private final int placesAcross;
-        private final Shadow shadow;
-        private final int[] numbers;
-        /** By point: the index of the place right above it. */
-        private final int[] homes;
-        private final int[] heights;
-        private final int[] rods;
-        private final int[] keptRods;
-        /** By place; brought up to date at every change of a tip, so that asking needs no more than a look. */
-        private final int[] rests;
-        private final int[] keptRests;
+        private final int[] touchCounts;
 
-        House(int w, int d, int r) {
-            this.w = w;
-            this.d = d;
+        Ball(House house, int r) {
+            this.house = house;
             this.r = r;
-            points = w * d;
-            placesAcross = w + 2 * r;
-            shadow = new Shadow(r);
-            listed = new int[points];
-            numbers = new int[points];
-            homes = new int[points];
-            heights = new int[points];
-            rods = new int[points];
-            keptRods = new int[points];
-            rests = new int[placesAcross * (d + 2 * r)];
-            keptRests = new int[rests.length];
-            for (int y = 0; y < d; y++) {
-                for (int x = 0; x < w; x++) {
-                    numbers[y * w + x] = NUMBERS_A_ROW * y + x;
-                    homes[y * w + x] = placeIndex(x, y);
-                }
+            ground = r * Level.ONE;
+            placesAcross = house.w + 2 * r;
+            shadow = new Shadow(r, placesAcross);
+            homes = new int[house.points];
+            hitCounts = new int[house.points];
+            listed = new int[house.points];
+            rests = new int[placesAcross * (house.d + 2 * r)];
+            owners = new int[rests.length];
+            touchCounts = new int[rests.length];
+            Arrays.fill(rests, ground);
+            Arrays.fill(owners, NONE);
+            for (int point = 0; point < house.points; point++) {
+                int home = placeIndex(house.columns[point], house.rows[point]);
+                homes[point] = home;
+                owners[home] = point;
+                touchCounts[home] = 1;
+                hitCounts[point] = 1;
             }
-            Arrays.fill(rests, r * Level.ONE);
-        }
-
-        int setHeight(int point, int height) {
-            int was = heights[point];
-            heights[point] = height;
-            moveRests(point, height - was);
-            return was;
-        }
-
-        int setRod(int point, int length) {
-            int was = rods[point];
-            rods[point] = length;
-            moveRests(point, length - was);
-            return was;
-        }
-
-        /** Only one state is kept at a time, and heights are not in it: candidates change rods alone. */
-        void keepState() {
-            System.arraycopy(rods, 0, keptRods, 0, rods.length);
-            System.arraycopy(rests, 0, keptRests, 0, rests.length);
-        }
-
-        void restoreState() {
-            System.arraycopy(keptRods, 0, rods, 0, rods.length);
-            System.arraycopy(keptRests, 0, rests, 0, rests.length);
         }
 
         int restAt(int x, int y) {
             return rests[placeIndex(x, y)];
+        }
+
+        int countTouched(int x, int y) {
+            return touchCounts[placeIndex(x, y)];
+        }
+
+        void listTouched(int x, int y) {
+            climb(house.tips, x, y, restAt(x, y));
+        }
+
+        boolean isSafe(int point) {
+            return hitCounts[point] == 0;
         }
 
         int countHighestPlaces() {
@@ -390,90 +399,389 @@ public final class RollingBalls {
             return count;
         }
 
-        int listTouched(int x, int y) {
-            int rest = restAt(x, y);
-            int count = 0;
-            for (int i = 0; i < shadow.size; i++) {
-                int pointX = x + shadow.across[i];
-                int pointY = y + shadow.along[i];
-                if (pointX < 0 || pointX >= w || pointY < 0 || pointY >= d) {
-                    continue;
-                }
-                int point = pointY * w + pointX;
-                if (tipOf(point) + shadow.lift[i] == rest) {
-                    listed[count] = numbers[point];
-                    count++;
-                }
-            }
-            return count;
-        }
-
-        int listSafe() {
-            int count = 0;
-            for (int point = 0; point < points; point++) {
-                if (isSafe(point)) {
-                    listed[count] = numbers[point];
-                    count++;
-                }
-            }
-            return count;
-        }
-
-        boolean isSafe(int point) {
-            return countHits(point) == 0;
-        }
-
-        int countHits(int point) {
-            int tip = tipOf(point);
-            int count = 0;
-            for (int i = 0; i < shadow.size; i++) {
-                if (rests[placeOver(point, i)] == tip + shadow.lift[i]) {
-                    count++;
-                }
-            }
-            return count;
-        }
-
         int coverOf(int point) {
-            int least = rests[homes[point]] - r * Level.ONE;
+            int home = homes[point];
+            int least = rests[home] - ground;
             for (int i = 0; i < shadow.size; i++) {
-                least = Math.min(least, rests[placeOver(point, i)] - shadow.lift[i]);
+                least = Math.min(least, rests[home + shadow.strides[i]] - shadow.lifts[i]);
             }
             return least;
         }
 
-        /** A tip that falls may let the ball down onto any other one, so then all rests are found anew. */
-        private void moveRests(int point, int rise) {
-            if (rise > 0) {
-                raiseRests(point);
+        void moveTip(int point, int tip) {
+            int was = house.tips[point];
+            if (tip > was) {
+                raiseTip(point, tip);
             }
-            if (rise < 0) {
-                Arrays.fill(rests, r * Level.ONE);
-                for (int each = 0; each < points; each++) {
-                    raiseRests(each);
+            if (tip < was) {
+                lowerTip(point, tip);
+            }
+        }
+
+        /** The tip itself is set last: what was touched at a place is found by the tips that were. */
+        private void raiseTip(int point, int tip) {
+            int[] strides = shadow.strides;
+            int[] lifts = shadow.lifts;
+            int home = homes[point];
+            for (int i = 0; i < shadow.size; i++) {
+                int place = home + strides[i];
+                int level = tip + lifts[i];
+                if (level < rests[place]) {
+                    continue;
+                }
+                if (level > rests[place]) {
+                    leave(place, house.columns[point] + shadow.across[i], house.rows[point] + shadow.along[i]);
+                    rests[place] = level;
+                }
+                owners[place] = point;
+                touchCounts[place]++;
+                hitCounts[point]++;
+            }
+            house.setTip(point, tip);
+        }
+
+        /** The ball is lifted off all that it touches at a place. */
+        private void leave(int place, int x, int y) {
+            int owner = owners[place];
+            if (owner == NONE) {
+                return;
+            }
+            if (touchCounts[place] == 1) {
+                hitCounts[owner]--;
+            } else {
+                climb(house.tips, x, y, rests[place]);
+                countListed(-1);
+            }
+            touchCounts[place] = 0;
+        }
+
+        private void lowerTip(int point, int tip) {
+            int[] strides = shadow.strides;
+            int[] lifts = shadow.lifts;
+            int was = house.tips[point];
+            int home = homes[point];
+            house.setTip(point, tip);
+            for (int i = 0; i < shadow.size; i++) {
+                int place = home + strides[i];
+                if (was + lifts[i] == rests[place]) {
+                    hitCounts[point]--;
+                    settle(place, house.columns[point] + shadow.across[i], house.rows[point] + shadow.along[i]);
                 }
             }
         }
 
-        private void raiseRests(int point) {
-            int tip = tipOf(point);
-            for (int i = 0; i < shadow.size; i++) {
-                int place = placeOver(point, i);
-                rests[place] = Math.max(rests[place], tip + shadow.lift[i]);
+        /** One of the points that were touched at a place has sunk: others hold the ball, or it comes down. */
+        private void settle(int place, int x, int y) {
+            if (touchCounts[place] > 1) {
+                climb(house.tips, x, y, rests[place]);
+            } else {
+                rests[place] = climb(house.tips, x, y, ground);
+                countListed(1);
+            }
+            touchCounts[place] = listedCount;
+            owners[place] = listedCount > 0 ? listed[0] : NONE;
+        }
+
+        private void countListed(int step) {
+            for (int n = 0; n < listedCount; n++) {
+                hitCounts[listed[n]] += step;
             }
         }
 
-        private int tipOf(int point) {
-            return (heights[point] + rods[point]) * Level.ONE;
+        int liftOver(int point, int x, int y) {
+            int across = house.columns[point] - x + r;
+            int along = house.rows[point] - y + r;
+            boolean isNear = across >= 0 && across < shadow.side && along >= 0 && along < shadow.side;
+            return isNear ? shadow.square[along * shadow.side + across] : Shadow.OUT_OF_REACH;
         }
 
-        /** A place from which the ball reaches a point: every one of them exists, as places go R beyond the points. */
-        private int placeOver(int point, int i) {
-            return homes[point] + shadow.along[i] * placesAcross + shadow.across[i];
+        /**
+         * The rest at a place over tips that are nowhere higher than the house's, if it is no less than a told level;
+         * lists what is touched, by y, then x. A row whose highest tip would be too low even at its nearest point is
+         * passed over; to pass over many, it begins with the level of the point that is nearest of all.
+         */
+        int climb(int[] tips, int x, int y, int atLeast) {
+            int[] square = shadow.square;
+            int[] rowTops = house.rowTops;
+            int w = house.w;
+            int side = shadow.side;
+            int lastX = x + r < w ? x + r : w - 1;
+            int lastY = y + r < house.d ? y + r : house.d - 1;
+            int firstX = x > r ? x - r : 0;
+            int firstY = y > r ? y - r : 0;
+            int nearX = x < firstX ? firstX : x > lastX ? lastX : x;
+            int nearY = y < firstY ? firstY : y > lastY ? lastY : y;
+            int nearLevel = tips[nearY * w + nearX] + square[(nearY - y + r) * side + nearX - x + r];
+            int cells = (firstY - y + r) * side + r - x;
+            int rest = nearLevel > atLeast ? nearLevel : atLeast;
+            int count = 0;
+            for (int row = firstY; row <= lastY; row++) {
+                if (rowTops[row] + square[cells + nearX] >= rest) {
+                    for (int column = firstX; column <= lastX; column++) {
+                        int reached = tips[row * w + column] + square[cells + column];
+                        if (reached > rest) {
+                            rest = reached;
+                            count = 0;
+                        }
+                        if (reached == rest) {
+                            listed[count] = row * w + column;
+                            count++;
+                        }
+                    }
+                }
+                cells += side;
+            }
+            listedCount = count;
+            return rest;
         }
 
         private int placeIndex(int x, int y) {
             return (y + r) * placesAcross + x + r;
+        }
+    }
+
+    /**
+     * Which candidates to put so that the wanted points are safe. All sets are looked at together: many sets are one
+     * int, in which bit S stands for the set that is S as a number.
+     */
+    private static final class Plan {
+        private static final int MOST_CANDIDATES = 4;
+        /** A candidate each, and the rod that is there at each one's point. */
+        private static final int MOST_CHOICES = 2 * MOST_CANDIDATES;
+        /** By candidate: the sets that hold it. */
+        private static final int[] SETS_WITH = {0xAAAA, 0xCCCC, 0xF0F0, 0xFF00};
+        private static final int EMPTY_SET = 0;
+        /** No rest is 0, as the radius is not. */
+        private static final int UNKNOWN = 0;
+
+        final int[] candidatePoints = new int[MOST_CANDIDATES];
+        final int[] candidateLengths = new int[MOST_CANDIDATES];
+        int candidates = 0;
+        final boolean[] wanted;
+
+        private final House house;
+        private final Ball ball;
+        /** The tips that the candidates' points can have, each with the sets that give it. */
+        private final int[] choicePoints = new int[MOST_CHOICES];
+        private final int[] choiceTips = new int[MOST_CHOICES];
+        private final int[] choiceSets = new int[MOST_CHOICES];
+        private int choices = 0;
+        /** The sets that make a tip lower than it is. */
+        private int sinkingSets = 0;
+        /** All tips, each as low as a set can make it, and the rests over them as far as they were needed. */
+        private final int[] lowTips;
+        private final int[] lowRests;
+
+        Plan(House house, Ball ball) {
+            this.house = house;
+            this.ball = ball;
+            wanted = new boolean[house.points];
+            lowTips = new int[house.points];
+            lowRests = new int[ball.rests.length];
+        }
+
+        static boolean holds(int set, int k) {
+            return (set >> k & 1) == 1;
+        }
+
+        boolean isFull() {
+            return candidates >= MOST_CANDIDATES;
+        }
+
+        void add(int point, int length) {
+            candidatePoints[candidates] = point;
+            candidateLengths[candidates] = length;
+            candidates++;
+        }
+
+        /**
+         * A point that is safe now, and whose own tip stays, can be hit only if other tips sink. So such points are
+         * looked at last, and only for sets that make tips sink and are better than all other ones left.
+         */
+        int bestSet() {
+            if (areWantedSafe()) {
+                return EMPTY_SET;
+            }
+            listChoices();
+            findLowTips();
+            int sets = (1 << (1 << candidates)) - 1;
+            for (int point = 0; point < house.points && sets != 0; point++) {
+                if (wanted[point] && !isSafeUnlessOthersSink(point)) {
+                    sets = setsThatSave(point, sets);
+                }
+            }
+            int best = bestOf(sets & ~sinkingSets);
+            sets = setsBetterThan(best, sets & sinkingSets);
+            for (int point = 0; point < house.points && sets != 0; point++) {
+                if (wanted[point] && isSafeUnlessOthersSink(point)) {
+                    sets = setsThatCover(point, house.tips[point], sets);
+                }
+            }
+            return sets == 0 ? best : bestOf(sets);
+        }
+
+        private boolean areWantedSafe() {
+            for (int point = 0; point < house.points; point++) {
+                if (wanted[point] && !ball.isSafe(point)) {
+                    return false;
+                }
+            }
+            return true;
+        }
+
+        private boolean isSafeUnlessOthersSink(int point) {
+            return ball.isSafe(point) && countCandidates(point, candidates) == 0;
+        }
+
+        /** How many of the candidates below k are of a point. */
+        private int countCandidates(int point, int k) {
+            int count = 0;
+            for (int each = 0; each < k; each++) {
+                if (candidatePoints[each] == point) {
+                    count++;
+                }
+            }
+            return count;
+        }
+
+        // ---- what the sets do to tips
+
+        private void listChoices() {
+            choices = 0;
+            sinkingSets = 0;
+            for (int k = 0; k < candidates; k++) {
+                int point = candidatePoints[k];
+                int overruling = 0;
+                for (int later = k + 1; later < candidates; later++) {
+                    if (candidatePoints[later] == point) {
+                        overruling |= SETS_WITH[later];
+                    }
+                }
+                addChoice(point, house.tipWith(point, candidateLengths[k]), SETS_WITH[k] & ~overruling);
+                if (countCandidates(point, k) == 0) {
+                    addChoice(point, house.tips[point], ~(SETS_WITH[k] | overruling));
+                }
+            }
+        }
+
+        private void addChoice(int point, int tip, int sets) {
+            choicePoints[choices] = point;
+            choiceTips[choices] = tip;
+            choiceSets[choices] = sets;
+            choices++;
+            if (tip < house.tips[point]) {
+                sinkingSets |= sets;
+            }
+        }
+
+        private void findLowTips() {
+            System.arraycopy(house.tips, 0, lowTips, 0, lowTips.length);
+            for (int n = 0; n < choices; n++) {
+                lowTips[choicePoints[n]] = Math.min(lowTips[choicePoints[n]], choiceTips[n]);
+            }
+            Arrays.fill(lowRests, UNKNOWN);
+        }
+
+        // ---- which sets make a point safe
+
+        /** Of some sets those that make a point safe, whatever they make of its own tip. */
+        private int setsThatSave(int point, int sets) {
+            int saving = 0;
+            int left = sets;
+            for (int n = 0; n < choices; n++) {
+                if (choicePoints[n] == point) {
+                    saving |= setsThatCover(point, choiceTips[n], sets & choiceSets[n]);
+                    left &= ~choiceSets[n];
+                }
+            }
+            return saving | setsThatCover(point, house.tips[point], left);
+        }
+
+        /** Of some sets those that keep the ball off a point with a told tip at every place. */
+        private int setsThatCover(int point, int tip, int sets) {
+            Shadow shadow = ball.shadow;
+            int[] strides = shadow.strides;
+            int[] lifts = shadow.lifts;
+            int[] rests = lowRests;
+            int home = ball.homes[point];
+            int left = sets;
+            for (int i = 0; i < shadow.size && left != 0; i++) {
+                int level = tip + lifts[i];
+                if (rests[home + strides[i]] > level) {
+                    continue;
+                }
+                int x = house.columns[point] + shadow.across[i];
+                int y = house.rows[point] + shadow.along[i];
+                if (lowRest(home + strides[i], x, y) <= level) {
+                    left &= setsAbove(level, point, x, y);
+                }
+            }
+            return left;
+        }
+
+        private int lowRest(int place, int x, int y) {
+            if (lowRests[place] == UNKNOWN) {
+                int owner = ball.owners[place];
+                boolean stays = owner == NONE || lowTips[owner] == house.tips[owner];
+                lowRests[place] = stays ? ball.rests[place] : ball.climb(lowTips, x, y, ball.ground);
+            }
+            return lowRests[place];
+        }
+
+        /** The sets in which a candidate's point, other than a told one, keeps the ball above a level at a place. */
+        private int setsAbove(int level, int point, int x, int y) {
+            int sets = 0;
+            for (int n = 0; n < choices; n++) {
+                int other = choicePoints[n];
+                if (other != point && choiceTips[n] + ball.liftOver(other, x, y) > level) {
+                    sets |= choiceSets[n];
+                }
+            }
+            return sets;
+        }
+
+        // ---- which set is the best one
+
+        private int bestOf(int sets) {
+            int best = NONE;
+            for (int set = 0; set < 1 << candidates; set++) {
+                if (holds(sets, set) && isBetter(set, best)) {
+                    best = set;
+                }
+            }
+            return best;
+        }
+
+        private int setsBetterThan(int best, int sets) {
+            int better = 0;
+            for (int set = 0; set < 1 << candidates; set++) {
+                if (holds(sets, set) && isBetter(set, best)) {
+                    better |= 1 << set;
+                }
+            }
+            return better;
+        }
+
+        private boolean isBetter(int set, int than) {
+            if (than == NONE) {
+                return true;
+            }
+            int fewer = Integer.bitCount(than) - Integer.bitCount(set);
+            if (fewer != 0) {
+                return fewer > 0;
+            }
+            int shorter = lengthOf(than) - lengthOf(set);
+            return shorter > 0 || shorter == 0 && set < than;
+        }
+
+        private int lengthOf(int set) {
+            int length = 0;
+            for (int k = 0; k < candidates; k++) {
+                if (holds(set, k)) {
+                    length += candidateLengths[k];
+                }
+            }
+            return length;
         }
     }
 }
