@@ -279,7 +279,7 @@ public final class RollingBalls {
         }
     }
 
-    /** What lies under the ball: the steps from its centre to all within its radius, across the ground. */
+    /** What lies under the ball: the steps from its centre to all within its radius, the nearest ones first. */
     private static final class Shadow {
         /** A lift this low makes that no tip is touched. */
         static final int OUT_OF_REACH = -1 << 30;
@@ -289,35 +289,52 @@ public final class RollingBalls {
         final int[] along;
         /** How far the index of a place goes on with this step. */
         final int[] strides;
-        /** How far the centre is above a tip that the ball touches there. */
+        /** How far the centre is above a tip that the ball touches there: less and less. */
         final int[] lifts;
         /** The lifts again, by (along + r) * side + across + r; out of reach in the corners. */
         final int[] square;
         final int side;
 
         Shadow(int r, int placesAcross) {
+            int[] next = firstSteps(r);
+            size = next[r * r + 1];
+            across = new int[size];
+            along = new int[size];
+            strides = new int[size];
+            lifts = new int[size];
             side = 2 * r + 1;
-            across = new int[side * side];
-            along = new int[side * side];
-            strides = new int[side * side];
-            lifts = new int[side * side];
             square = new int[side * side];
-            int count = 0;
             for (int y = -r; y <= r; y++) {
                 for (int x = -r; x <= r; x++) {
-                    int liftSquare = r * r - x * x - y * y;
-                    int cell = (y + r) * side + x + r;
-                    square[cell] = liftSquare < 0 ? OUT_OF_REACH : Level.ROOTS[liftSquare];
-                    if (liftSquare >= 0) {
-                        across[count] = x;
-                        along[count] = y;
-                        strides[count] = y * placesAcross + x;
-                        lifts[count] = square[cell];
-                        count++;
+                    int distance = x * x + y * y;
+                    int lift = distance <= r * r ? Level.ROOTS[r * r - distance] : OUT_OF_REACH;
+                    square[(y + r) * side + x + r] = lift;
+                    if (lift != OUT_OF_REACH) {
+                        int step = next[distance];
+                        next[distance]++;
+                        across[step] = x;
+                        along[step] = y;
+                        strides[step] = y * placesAcross + x;
+                        lifts[step] = lift;
                     }
                 }
             }
-            size = count;
+        }
+
+        /** By the square of a distance: how many steps are shorter. */
+        private static int[] firstSteps(int r) {
+            int[] first = new int[r * r + 2];
+            for (int y = -r; y <= r; y++) {
+                for (int x = -r; x <= r; x++) {
+                    if (x * x + y * y <= r * r) {
+                        first[x * x + y * y + 1]++;
+                    }
+                }
+            }
+            for (int distance = 0; distance <= r * r; distance++) {
+                first[distance + 1] += first[distance];
+            }
+            return first;
         }
     }
 
@@ -418,12 +435,15 @@ public final class RollingBalls {
             }
         }
 
-        /** The tip itself is set last: what was touched at a place is found by the tips that were. */
+        /**
+         * Goes on from the nearest place as long as the tip reaches up to a ball on the ground. The tip itself is set
+         * last: what was touched at a place is found by the tips that were.
+         */
         private void raiseTip(int point, int tip) {
             int[] strides = shadow.strides;
             int[] lifts = shadow.lifts;
             int home = homes[point];
-            for (int i = 0; i < shadow.size; i++) {
+            for (int i = 0; i < shadow.size && tip + lifts[i] >= ground; i++) {
                 int place = home + strides[i];
                 int level = tip + lifts[i];
                 if (level < rests[place]) {
@@ -455,15 +475,18 @@ public final class RollingBalls {
             touchCounts[place] = 0;
         }
 
+        /** Goes on from the nearest place until all are done at which the point was touched. */
         private void lowerTip(int point, int tip) {
             int[] strides = shadow.strides;
             int[] lifts = shadow.lifts;
             int was = house.tips[point];
             int home = homes[point];
+            int touches = hitCounts[point];
             house.setTip(point, tip);
-            for (int i = 0; i < shadow.size; i++) {
+            for (int i = 0; i < shadow.size && touches > 0; i++) {
                 int place = home + strides[i];
                 if (was + lifts[i] == rests[place]) {
+                    touches--;
                     hitCounts[point]--;
                     settle(place, house.columns[point] + shadow.across[i], house.rows[point] + shadow.along[i]);
                 }
@@ -551,8 +574,6 @@ public final class RollingBalls {
         /** By candidate: the sets that hold it. */
         private static final int[] SETS_WITH = {0xAAAA, 0xCCCC, 0xF0F0, 0xFF00};
         private static final int EMPTY_SET = 0;
-        /** No rest is 0, as the radius is not. */
-        private static final int UNKNOWN = 0;
 
         final int[] candidatePoints = new int[MOST_CANDIDATES];
         final int[] candidateLengths = new int[MOST_CANDIDATES];
@@ -568,16 +589,14 @@ public final class RollingBalls {
         private int choices = 0;
         /** The sets that make a tip lower than it is. */
         private int sinkingSets = 0;
-        /** All tips, each as low as a set can make it, and the rests over them as far as they were needed. */
+        /** All tips, each as low as a set can make it. */
         private final int[] lowTips;
-        private final int[] lowRests;
 
         Plan(House house, Ball ball) {
             this.house = house;
             this.ball = ball;
             wanted = new boolean[house.points];
             lowTips = new int[house.points];
-            lowRests = new int[ball.rests.length];
         }
 
         static boolean holds(int set, int k) {
@@ -595,8 +614,9 @@ public final class RollingBalls {
         }
 
         /**
-         * A point that is safe now, and whose own tip stays, can be hit only if other tips sink. So such points are
-         * looked at last, and only for sets that make tips sink and are better than all other ones left.
+         * Where a ball does not sink, only what it touches now and the candidates' own points can be hit. So these
+         * are looked at first. Where it may sink is looked at last, and only for sets that make a tip sink and are
+         * better than all other ones left.
          */
         int bestSet() {
             if (areWantedSafe()) {
@@ -606,15 +626,15 @@ public final class RollingBalls {
             findLowTips();
             int sets = (1 << (1 << candidates)) - 1;
             for (int point = 0; point < house.points && sets != 0; point++) {
-                if (wanted[point] && !isSafeUnlessOthersSink(point)) {
-                    sets = setsThatSave(point, sets);
+                if (wanted[point]) {
+                    sets = isCandidate(point) ? setsThatSave(point, sets) : setsThatFree(point, sets);
                 }
             }
             int best = bestOf(sets & ~sinkingSets);
             sets = setsBetterThan(best, sets & sinkingSets);
             for (int point = 0; point < house.points && sets != 0; point++) {
-                if (wanted[point] && isSafeUnlessOthersSink(point)) {
-                    sets = setsThatCover(point, house.tips[point], sets);
+                if (lowTips[point] < house.tips[point]) {
+                    sets = setsThatMayLower(point, sets);
                 }
             }
             return sets == 0 ? best : bestOf(sets);
@@ -629,8 +649,8 @@ public final class RollingBalls {
             return true;
         }
 
-        private boolean isSafeUnlessOthersSink(int point) {
-            return ball.isSafe(point) && countCandidates(point, candidates) == 0;
+        private boolean isCandidate(int point) {
+            return countCandidates(point, candidates) > 0;
         }
 
         /** How many of the candidates below k are of a point. */
@@ -679,61 +699,100 @@ public final class RollingBalls {
             for (int n = 0; n < choices; n++) {
                 lowTips[choicePoints[n]] = Math.min(lowTips[choicePoints[n]], choiceTips[n]);
             }
-            Arrays.fill(lowRests, UNKNOWN);
         }
 
-        // ---- which sets make a point safe
+        // ---- which sets make points safe
 
-        /** Of some sets those that make a point safe, whatever they make of its own tip. */
-        private int setsThatSave(int point, int sets) {
-            int saving = 0;
-            int left = sets;
-            for (int n = 0; n < choices; n++) {
-                if (choicePoints[n] == point) {
-                    saving |= setsThatCover(point, choiceTips[n], sets & choiceSets[n]);
-                    left &= ~choiceSets[n];
-                }
-            }
-            return saving | setsThatCover(point, house.tips[point], left);
-        }
-
-        /** Of some sets those that keep the ball off a point with a told tip at every place. */
-        private int setsThatCover(int point, int tip, int sets) {
+        /** Of some sets those that lift the ball off a point wherever it is touched now. */
+        private int setsThatFree(int point, int sets) {
             Shadow shadow = ball.shadow;
-            int[] strides = shadow.strides;
-            int[] lifts = shadow.lifts;
-            int[] rests = lowRests;
             int home = ball.homes[point];
+            int tip = house.tips[point];
+            int touches = ball.hitCounts[point];
             int left = sets;
-            for (int i = 0; i < shadow.size && left != 0; i++) {
-                int level = tip + lifts[i];
-                if (rests[home + strides[i]] > level) {
-                    continue;
-                }
-                int x = house.columns[point] + shadow.across[i];
-                int y = house.rows[point] + shadow.along[i];
-                if (lowRest(home + strides[i], x, y) <= level) {
-                    left &= setsAbove(level, point, x, y);
+            for (int i = 0; i < shadow.size && touches > 0 && left != 0; i++) {
+                int level = tip + shadow.lifts[i];
+                if (ball.rests[home + shadow.strides[i]] == level) {
+                    touches--;
+                    left &= setsAbove(level, house.columns[point] + shadow.across[i],
+                            house.rows[point] + shadow.along[i]);
                 }
             }
             return left;
         }
 
-        private int lowRest(int place, int x, int y) {
-            if (lowRests[place] == UNKNOWN) {
-                int owner = ball.owners[place];
-                boolean stays = owner == NONE || lowTips[owner] == house.tips[owner];
-                lowRests[place] = stays ? ball.rests[place] : ball.climb(lowTips, x, y, ball.ground);
+        /** Of some sets those that make a candidate's point safe, each with the tip that it gives it. */
+        private int setsThatSave(int point, int sets) {
+            int saving = 0;
+            for (int n = 0; n < choices; n++) {
+                if (choicePoints[n] == point) {
+                    saving |= setsThatCover(point, choiceTips[n], sets & choiceSets[n]);
+                }
             }
-            return lowRests[place];
+            return saving;
         }
 
-        /** The sets in which a candidate's point, other than a told one, keeps the ball above a level at a place. */
-        private int setsAbove(int level, int point, int x, int y) {
+        /** Of some sets those that keep the ball off a candidate's point with a told tip at every place. */
+        private int setsThatCover(int point, int tip, int sets) {
+            Shadow shadow = ball.shadow;
+            int home = ball.homes[point];
+            int left = sets;
+            for (int i = 0; i < shadow.size && tip + shadow.lifts[i] >= ball.ground && left != 0; i++) {
+                int level = tip + shadow.lifts[i];
+                int place = home + shadow.strides[i];
+                int x = house.columns[point] + shadow.across[i];
+                int y = house.rows[point] + shadow.along[i];
+                if (ball.rests[place] <= level || maySink(place) && lowRest(x, y) <= level) {
+                    left &= setsAbove(level, x, y);
+                }
+            }
+            return left;
+        }
+
+        private boolean maySink(int place) {
+            int owner = ball.owners[place];
+            return owner != NONE && lowTips[owner] < house.tips[owner];
+        }
+
+        private int lowRest(int x, int y) {
+            return ball.climb(lowTips, x, y, ball.ground);
+        }
+
+        /** Of some sets those that let a point sink, if they do, without the ball coming down on a wanted one. */
+        private int setsThatMayLower(int point, int sets) {
+            Shadow shadow = ball.shadow;
+            int home = ball.homes[point];
+            int left = sets;
+            for (int i = 0; i < shadow.size && left != 0; i++) {
+                if (ball.owners[home + shadow.strides[i]] == point) {
+                    int x = house.columns[point] + shadow.across[i];
+                    int y = house.rows[point] + shadow.along[i];
+                    int level = lowRest(x, y);
+                    if (isWantedListed()) {
+                        left &= setsAbove(level, x, y);
+                    }
+                }
+            }
+            return left;
+        }
+
+        private boolean isWantedListed() {
+            for (int n = 0; n < ball.listedCount; n++) {
+                if (wanted[ball.listed[n]]) {
+                    return true;
+                }
+            }
+            return false;
+        }
+
+        /**
+         * The sets in which a candidate's point keeps the ball above a level at a place. If the level is that of such
+         * a point itself, its other choices do no harm here: they belong to other sets than those that are asked about.
+         */
+        private int setsAbove(int level, int x, int y) {
             int sets = 0;
             for (int n = 0; n < choices; n++) {
-                int other = choicePoints[n];
-                if (other != point && choiceTips[n] + ball.liftOver(other, x, y) > level) {
+                if (choiceTips[n] + ball.liftOver(choicePoints[n], x, y) > level) {
                     sets |= choiceSets[n];
                 }
             }

@@ -172,6 +172,34 @@ public final class PromisesTest {
         }
     }
 
+    private static void hitsAre(RollingBalls b, String when, int first, int last) {
+        CHECK.due("8: the first of two, " + when, b.hits(0, 0), first);
+        CHECK.due("8: the last of two, " + when, b.hits(2, 0), last);
+    }
+
+    /** Two points that are both touched at the nine places midway between them. */
+    private static void hitsOfTwo() {
+        RollingBalls b = new RollingBalls(3, 1, 5);
+        b.height(0, 0, 8);
+        hitsAre(b, "one high", 81, 0);
+        b.height(2, 0, 8);
+        hitsAre(b, "alike", 55, 55);
+        CHECK.due("8: both touched", b.rest(1, 0, 2), 2);
+        b.height(0, 0, 18);
+        hitsAre(b, "the first far higher", 81, 20);
+        CHECK.due("8: one touched", b.rest(1, 0, 2), 1);
+        b.height(0, 0, 8);
+        hitsAre(b, "alike again", 55, 55);
+        b.height(2, 0, 18);
+        hitsAre(b, "the last far higher", 20, 81);
+        b.height(2, 0, 8);
+        b.height(0, 0, 0);
+        hitsAre(b, "the first on the ground", 0, 81);
+        CHECK.due("8: the last touched", b.touched(1, 0, 0), 2);
+        b.height(2, 0, 0);
+        hitsAre(b, "both on the ground", 1, 1);
+    }
+
     private static void safe() {
         RollingBalls b = new RollingBalls(3, 2, 5);
         CHECK.due("9: all are hit", b.safe(0), RollingBalls.NONE);
@@ -302,6 +330,73 @@ public final class PromisesTest {
         CHECK.due("14: the long one is there still", wide.rod(1, 0, 50), 50);
     }
 
+    private static void chooseWhatShelters() {
+        RollingBalls b = new RollingBalls(12, 1, 10);
+        b.rod(3, 0, 50);
+        b.want(3, 0, true);
+        b.may(0, 0, 50);
+        b.may(3, 0, 1);
+        CHECK.due("14: another rod, and a shorter one in place of its own", b.choose(), 3);
+        b.want(11, 0, true);
+        CHECK.due("14: but only the long one shelters a far point", b.choose(), RollingBalls.NONE);
+        b.may(9, 0, 40);
+        CHECK.due("14: a rod for the far point too", b.choose(), 7);
+        b.may(5, 0, 30);
+        CHECK.due("14: one rod that does both", b.choose(), 10);
+        b.want(3, 0, false);
+        CHECK.due("14: what is wanted is safe", b.choose(), 0);
+    }
+
+    private static void chooseNotToRaise() {
+        RollingBalls b = new RollingBalls(12, 1, 10);
+        b.rod(0, 0, 50);
+        b.want(2, 0, true);
+        CHECK.due("14: sheltered", b.choose(), 0);
+        b.want(11, 0, true);
+        b.may(2, 0, 10);
+        CHECK.due("14: the rod that saves the one has the other hit", b.choose(), RollingBalls.NONE);
+        b.may(3, 0, 20);
+        CHECK.due("14: so a longer one", b.choose(), 2);
+        b.want(2, 0, false);
+        CHECK.due("14: the shorter one", b.choose(), 1);
+    }
+
+    /** A set with two candidates of one point cannot have the good of both. */
+    private static void chooseOneOfAPoint() {
+        int[][] lengths = {{1, 50}, {50, 1}};
+        for (int[] pair : lengths) {
+            RollingBalls b = new RollingBalls(12, 1, 10);
+            b.rod(0, 0, 50);
+            b.want(3, 0, true);
+            b.want(11, 0, true);
+            b.may(3, 0, pair[0]);
+            b.may(3, 0, pair[1]);
+            CHECK.due("14: short for the one, long for the other", b.choose(), RollingBalls.NONE);
+            b.want(3, 0, false);
+            CHECK.due("14: long", b.choose(), pair[0] == 50 ? 1 : 2);
+        }
+    }
+
+    /** (1, 0) is safe with a rod of 9 if (2, 0) has one of 3, and with a rod of 3 anyway. */
+    private static void chooseTheLeastNumber() {
+        for (int first = 1; first <= 2; first++) {
+            RollingBalls b = new RollingBalls(3, 1, 10);
+            b.height(0, 0, 200);
+            b.height(2, 0, 5);
+            b.rod(1, 0, 9);
+            b.want(1, 0, true);
+            CHECK.due("14: hit from one side", b.choose(), RollingBalls.NONE);
+            b.may(first, 0, 3);
+            CHECK.due("14: one that does", b.choose(), 1);
+            b.may(3 - first, 0, 3);
+            CHECK.due("14: of two that do the least as a number", b.choose(), 1);
+            b.forget();
+            b.may(first, 0, 4);
+            b.may(3 - first, 0, 3);
+            CHECK.due("14: of two that do the shorter one", b.choose(), 2);
+        }
+    }
+
     private static void put() {
         RollingBalls b = new RollingBalls(5, 1, 1);
         CHECK.due("15: no candidates", b.put(-1), 0);
@@ -338,6 +433,7 @@ public final class PromisesTest {
         higher();
         tops();
         hits();
+        hitsOfTwo();
         safe();
         cover();
         may();
@@ -345,6 +441,10 @@ public final class PromisesTest {
         want();
         choose();
         chooseInPlaceOfARod();
+        chooseWhatShelters();
+        chooseNotToRaise();
+        chooseOneOfAPoint();
+        chooseTheLeastNumber();
         put();
         CHECK.end();
     }

@@ -108,6 +108,34 @@ public final class RandomRunsTest {
         }
     }
 
+    /** Rods, and candidates for the same points, shorter and longer ones: some wanted points need a rod to sink. */
+    private void runOfRodsThatSink() {
+        for (int at = 0; at < 5; at++) {
+            setHeight(at, random.nextInt(5));
+        }
+        int[] xs = random.ints(3, 0, model.w).toArray();
+        int[] ys = random.ints(3, 0, model.d).toArray();
+        for (int n = 0; n < 3; n++) {
+            int x = xs[n];
+            int y = ys[n];
+            int length = random.nextInt(30);
+            same(n, "rod", () -> balls.rod(x, y, length), () -> model.rod(x, y, length));
+        }
+        for (int at = 8; at < 12; at++) {
+            int n = random.nextInt(3);
+            int length = 1 + random.nextInt(random.nextBoolean() ? 6 : 40);
+            same(at, "may", () -> balls.may(xs[n], ys[n], length), () -> model.may(xs[n], ys[n], length));
+        }
+        for (int n = 0; n < 3; n++) {
+            setWanted(12, true);
+            int x = xs[n];
+            int y = ys[n];
+            boolean on = random.nextBoolean();
+            same(13, "want", () -> balls.want(x, y, on) ? 1 : 0, () -> model.want(x, y, on) ? 1 : 0);
+            same(14, "choose()", balls::choose, model::choose);
+        }
+    }
+
     private void change(int at, int kind) {
         if (kind < 5) {
             setHeight(at, within(0, highest));
@@ -203,6 +231,11 @@ public final class RandomRunsTest {
         }
         for (int seed = 1; seed <= 2000 && check.wrong() == 0; seed++) {
             new RandomRunsTest(seed, check).runOfRods();
+        }
+        for (int seed = 1; seed <= 2000 && check.wrong() == 0; seed++) {
+            if (seed % 5 != 0) {
+                new RandomRunsTest(seed, check).runOfRodsThatSink();
+            }
         }
         check.end();
     }
