@@ -48,7 +48,8 @@ public final class ExactTest {
                 .compareTo(new PlainModel.Height(tip, r * r - otherSquare));
         int x = -step[0];
         int otherX = FAR + otherStep[0];
-        String heights = " of " + MIDDLE + " + root " + (r * r - square) + ", " + tip + " + root " + (r * r - otherSquare);
+        String heights = " of " + MIDDLE + " + root " + (r * r - square)
+                + ", " + tip + " + root " + (r * r - otherSquare);
         check.due("higher" + heights, balls.higher(x, step[1], otherX, otherStep[1]), due);
         check.due("higher, turned," + heights, balls.higher(otherX, otherStep[1], x, step[1]), -due);
         calls += 2;
